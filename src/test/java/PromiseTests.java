@@ -107,6 +107,9 @@ public final class PromiseTests {
         due("3 acts", x.count(9), 3);
         due("3 put again", x.put(8, 7), 1);
         due("3 inputs as new", x.cell(8, 1), 32);
+        LookupBoard y = loaded("8=96/p0;9=01/p7");
+        due("3 beside another", y.take(8), 1);
+        due("3 the other's wire stays", y.cell(9, 6), 4);
         due("3 no path", x.path(8, 0, 0), NONE);
     }
 
@@ -213,6 +216,9 @@ public final class PromiseTests {
         due("6 high", x.swap(8, 24), UNKNOWN);
         due("6 same, none", x.swap(24, 24), UNKNOWN);
         due("6 acts", x.count(9), 3);
+        LookupBoard y = loaded("3=11");
+        due("6 without wires", y.swap(3, 4), 0);
+        due("6 without wires, there", y.cell(4, 0), 0x11);
         crowdedSwap();
         swapLaysAnew();
     }
@@ -262,6 +268,10 @@ public final class PromiseTests {
         dueWay(x, 2, 0, "0-1-2-");
         dueWay(x, 7, 0, "0-6-7-");
         dueWay(x, 7, 1, "0-1-7-");
+        LookupBoard y = loaded("23=00/p0;18=00/p4");
+        for (int order = 0; order < 3; order++) {
+            due("7 from corner to corner", y.layAnew(order), 16);
+        }
         orders();
         crowdedOrders();
     }
