@@ -130,11 +130,43 @@ final class ActsPart {
         for (int place = 0; place < 18; place++) {
             Checks.due("held behind it", x.held(place, place + 6), 0);
         }
+        takeBesideOthers();
         Scenes.FULL.records("take(0)", y -> y.take(0), 23);
         Scenes.FULL.records("take(23)", y -> y.take(23), 23);
         Scenes.SOME.records("take(3)", y -> y.take(3), 2);
         Scenes.SOME.records("take(16)", y -> y.take(16), 2);
         Scenes.plan("7=11/c7/p0/p0").records("take(7)", y -> y.take(7), 0);
+    }
+
+    /** The wires of the cells at the next places, by their inputs that are the next ones, stay. */
+    private static void takeBesideOthers() {
+        for (int place : new int[] {0, 7, 8, 22, 23}) {
+            Watched x = Scenes.cells(4, 0);
+            Watched without = Scenes.cells(4, 0);
+            for (int at : new int[] {place - 1, place + 1}) {
+                putWithPads(x, at);
+                putWithPads(without, at);
+            }
+            putWithPads(x, place);
+            x.take(place);
+            for (int what = 0; what < 9; what++) {
+                Checks.due("count(" + what + ") behind take(" + place + ")", x.count(what), without.count(what));
+            }
+            for (int one = 0; one < 24; one++) {
+                Checks.due("held", x.held(one, one + 1), without.held(one, one + 1));
+                Checks.due("held", x.held(one, one + 6), without.held(one, one + 6));
+                Checks.due("segments of " + one, x.cell(one, 6), without.cell(one, 6));
+                Checks.due("the last way to " + one, x.way(one, 2), without.way(one, 2));
+                Checks.due("the first way to " + one, x.way(one, 0), without.way(one, 0));
+            }
+        }
+    }
+
+    private static void putWithPads(Watched x, int place) {
+        x.put(place, 1);
+        x.connect(place, 0, 29);
+        x.connect(place, 1, 30);
+        x.connect(place, 2, 25);
     }
 
     private static void takeRefused() {
@@ -336,6 +368,18 @@ final class ActsPart {
                 Checks.due("cell(" + cell[0] + ", " + what + ") then", x.cell(cell[0], what), cell[what]);
             }
         }
+        // Each input of any cell: the first and the last one of the board, too.
+        for (int wire = 0; wire < 72; wire++) {
+            int place = wire / 3;
+            int source = place == 11 ? 10 : 11;
+            Watched z = Scenes.cells(2, 1, place, source);
+            z.connect(place, wire % 3, source);
+            z.swap(source, 12);
+            int now = place == 12 ? source : place;
+            Checks.due("the source of " + wire, z.cell(now, 1 + wire % 3), 12);
+            z.swap(20, 12);
+            Checks.due("the source of " + wire + " then", z.cell(now == 20 ? 12 : now, 1 + wire % 3), 20);
+        }
         // Pads stay where they are, and answers don't change.
         Watched y = Scenes.loaded("0=e8/p0/p1/p7;1=96/c0/p2/1");
         int ones = y.ones(1);
@@ -356,6 +400,13 @@ final class ActsPart {
         Checks.due("by places, the second", x.way(2, 0), "0-6-7-1-2");
         Checks.due("by the places behind it", x.swap(2, 1), 5);
         Checks.due("the first", x.way(1, 0), "0-1");
+        Watched far = Scenes.cells(1, 1, 3, 7, 20);
+        far.connect(7, 0, 24);
+        far.connect(3, 0, 24);
+        Checks.due("ahead of it", far.way(7, 0), "0-1-7");
+        far.swap(21, 20);
+        Checks.due("the first, though it is farther", far.way(3, 0), "0-1-2-3");
+        Checks.due("the second, though it is nearer", far.way(7, 0), "0-6-7");
         Watched y = Scenes.cells(1, 1, 7, 2);
         y.connect(2, 0, 24);
         y.connect(7, 0, 24);

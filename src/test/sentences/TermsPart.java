@@ -18,6 +18,7 @@ final class TermsPart {
         sourceNumbers();
         padPlaces();
         takenOnlyUnused();
+        takenAtTheEnds();
         sourcesOnlyWithCells();
         segments();
         wires();
@@ -28,6 +29,7 @@ final class TermsPart {
         lowerJunctions();
         goingFromTheSource();
         othersStay();
+        longestPath();
         noPathLeft();
     }
 
@@ -124,8 +126,9 @@ final class TermsPart {
 
     private static void takenOnlyUnused() {
         Checks.holds(PLACES, "A cell can only be taken away if no input of another cell has it as its source;");
+        // The inputs just ahead of and behind those of the cell itself are another cell's.
         for (int input = 0; input < 3; input++) {
-            for (int user : new int[] {0, 22, 23}) {
+            for (int user : new int[] {0, 6, 8, 22, 23}) {
                 Watched x = Scenes.cells(2, 1, 7, user);
                 x.connect(user, input, 7);
                 Checks.due("take(7), used by " + user + "/" + input, x.take(7), NOT_POSSIBLE);
@@ -133,6 +136,20 @@ final class TermsPart {
                 Checks.due("take(7), used by itself, too", x.take(7), NOT_POSSIBLE);
                 x.connect(user, input, 32);
                 Checks.due("take(7), used by itself alone", x.take(7), 1);
+            }
+        }
+    }
+
+    private static void takenAtTheEnds() {
+        Checks.holds(PLACES, "if no input of another cell has it as its source;");
+        int[][] pairs = {{0, 1}, {1, 0}, {23, 22}, {22, 23}, {0, 23}, {23, 0}};
+        for (int[] pair : pairs) {
+            for (int input = 0; input < 3; input++) {
+                Watched x = Scenes.cells(2, 1, pair);
+                x.connect(pair[1], input, pair[0]);
+                Checks.due("take(" + pair[0] + "), used by " + pair[1] + "/" + input, x.take(pair[0]), NOT_POSSIBLE);
+                Checks.due("take(" + pair[1] + ")", x.take(pair[1]), 1);
+                Checks.due("take(" + pair[0] + ")", x.take(pair[0]), 0);
             }
         }
     }
@@ -341,6 +358,35 @@ final class TermsPart {
         Checks.due("still round", x.way(1, 1), "0-6-7-1");
         x.connect(1, 1, 24);
         Checks.due("laid as its input gets a source", x.way(1, 1), "0-1");
+    }
+
+    private static void longestPath() {
+        Checks.holds(WIRES, "a path from the junction of the source to that of its cell");
+        // Each segment between two rows but one has its wire: only the way along all rows is left.
+        Watched x = Scenes.cells(1, 1);
+        Scenes.putEverywhere(x);
+        for (int place = 0; place < 18; place++) {
+            int turn = new int[] {5, 6, 17}[place / 6];
+            if (place != turn) {
+                Checks.due("a wire down from " + place, x.connect(place + 6, 0, place), 1);
+            }
+        }
+        Checks.due("over all junctions", x.connect(18, 1, 0), 23);
+        for (int step = 0; step < 24; step++) {
+            int row = step / 6;
+            int junction = row % 2 == 0 ? step : row * 6 + 5 - step % 6;
+            Checks.due("the step " + step, x.path(18, 1, step), junction);
+        }
+        Checks.due("no more", x.path(18, 1, 24), NONE);
+        Checks.due("full ones", x.count(3), 38);
+        Checks.due("segments", x.count(2), 38);
+        Checks.due("the cell's", x.cell(18, 6), 24);
+        Checks.due("no way is left", x.connect(0, 0, 1), CROWDED);
+        Checks.due("none is needed", x.connect(0, 0, 24), 0);
+        Checks.due("its own way back", x.connect(18, 1, 31), 5);
+        Checks.due("undo", x.undo(), 3);
+        Checks.due("as it was", x.path(18, 1, 22), 19);
+        Checks.due("full ones again", x.count(3), 38);
     }
 
     private static void noPathLeft() {

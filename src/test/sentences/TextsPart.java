@@ -323,6 +323,10 @@ final class TextsPart {
             Checks.due("by places, the second", x.way(2, 0), "0-6-7-1-2");
             Checks.due("no wire of what was", x.count(2), 5);
         }
+        Watched far = Scenes.cells(1, 1);
+        far.load("7=00/p0;3=00/p0");
+        Checks.due("the first, though it is farther", far.way(3, 0), "0-1-2-3");
+        Checks.due("the second, though it is nearer", far.way(7, 0), "0-6-7");
         Watched y = Scenes.cells(1, 1);
         y.load("1=00/p0/1/p0");
         Checks.due("by inputs, the first", y.way(1, 0), "0-1");
@@ -374,6 +378,12 @@ final class TextsPart {
             String ahead = "/0/0".substring(0, 2 * input);
             Checks.due("no cell at the input " + input, x.load("5=01" + ahead + "/c23"), NOT_POSSIBLE);
             Checks.due("no cell at 0", x.load("5=01" + ahead + "/c0"), NOT_POSSIBLE);
+        }
+        for (int place = 0; place < 24; place++) {
+            for (int input = 0; input < 3; input++) {
+                String text = place + "=01" + "/0/0".substring(0, 2 * input) + "/c" + (place + 1) % 24;
+                Checks.due("load of " + text, fault(text), NOT_POSSIBLE);
+            }
         }
         // A corner has room for two wires of another place at one a segment, and for three at two.
         Scene crowded = new Scene("a plan that is crowded", y -> {

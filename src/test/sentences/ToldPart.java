@@ -48,6 +48,15 @@ final class ToldPart {
                 Checks.due("cell(" + row[0] + ", " + what + ")", x.cell(row[0], what), row[1 + what]);
             }
         }
+        // Three cells side by side: the wires of each are its own.
+        Watched beside = Scenes.loaded("7=00/p0/p0/p1;8=00/p4/p0/p5;9=00/p0/p1/p6");
+        for (int place = 7; place <= 9; place++) {
+            int segments = 0;
+            for (int input = 0; input < 3; input++) {
+                segments += beside.way(place, input).split("-").length - 1;
+            }
+            Checks.due("segments of " + place, beside.cell(place, 6), segments);
+        }
         x.connect(7, 1, 32);
         Checks.due("a depth", x.cell(7, 4), 1);
         Checks.due("a depth behind it", x.cell(16, 4), 2);
